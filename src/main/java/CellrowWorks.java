@@ -292,7 +292,9 @@ public final class CellrowWorks {
 
     /** Makes cells those kinds that leak the least without harm and returns the leakage of all cells. */
     public int save() {
-        tuner.lessen();
+        for (int cell = 0; cell < list.cellCount; cell++) {
+            tuner.lessen(cell);
+        }
         return list.leakOfAll();
     }
 
@@ -442,7 +444,7 @@ public final class CellrowWorks {
             case 't':
                 return drawing.antennas();
             case 'l':
-                return list.crossings();
+                return floor.crossings();
             default:
                 throw new IllegalArgumentException("no such rule");
         }
@@ -481,7 +483,7 @@ public final class CellrowWorks {
     public int setDomain(int cell, int domain) throws IndexOutOfBoundsException, IllegalArgumentException {
         needCell(cell);
         needRange(domain, 0, 1);
-        return list.exchangeDomain(cell, domain);
+        return floor.exchangeDomain(cell, domain);
     }
 
     /** Makes the chain of all flip-flops for tests and returns its length. */
@@ -719,23 +721,23 @@ public final class CellrowWorks {
         }
 
         char typeOf(int kind) {
-            return has(kind) ? types[kind] : ' ';
+            return kind >= 0 && kind < count ? types[kind] : ' ';
         }
 
         int widthOf(int kind) {
-            return has(kind) ? widths[kind] : 0;
+            return kind >= 0 && kind < count ? widths[kind] : 0;
         }
 
         int driveOf(int kind) {
-            return has(kind) ? drives[kind] : 0;
+            return kind >= 0 && kind < count ? drives[kind] : 0;
         }
 
         int loadOf(int kind) {
-            return has(kind) ? loads[kind] : 0;
+            return kind >= 0 && kind < count ? loads[kind] : 0;
         }
 
         int leakOf(int kind) {
-            return has(kind) ? leaks[kind] : 0;
+            return kind >= 0 && kind < count ? leaks[kind] : 0;
         }
 
         boolean isAlike(int kind, int other) {
@@ -772,7 +774,7 @@ public final class CellrowWorks {
         private final int[] driven = new int[MOST_CELLS];
         private final int[][] pins = new int[MOST_CELLS][MOST_PINS];
         private final boolean[] isPutIn = new boolean[MOST_CELLS];
-        private final int[] domains = new int[MOST_CELLS];
+        private final char[] types = new char[MOST_CELLS];
         private final int[] drivers = new int[MOST_NETS];
         private final int[] sources = new int[MOST_NETS];
         private final int[] inputRows = new int[MOST_PORTS];
@@ -801,25 +803,24 @@ public final class CellrowWorks {
         }
 
         int kindOf(int cell) {
-            return hasCell(cell) ? kinds[cell] : NONE;
+            return cell >= 0 && cell < cellCount ? kinds[cell] : NONE;
         }
 
         char typeOf(int cell) {
-            return library.typeOf(kindOf(cell));
+            return cell >= 0 && cell < cellCount ? types[cell] : ' ';
         }
 
         int widthOf(int cell) {
-            return library.widthOf(kindOf(cell));
+            return cell >= 0 && cell < cellCount ? library.widthOf(kinds[cell]) : 0;
         }
 
         boolean isFlop(int cell) {
-            return typeOf(cell) == 'f';
+            return cell >= 0 && cell < cellCount && types[cell] == 'f';
         }
 
         /** Whether the cell drives at once what comes of its inputs. */
         boolean isGate(int cell) {
-            char type = typeOf(cell);
-            return hasCell(cell) && type != 'f' && type != 'd';
+            return cell >= 0 && cell < cellCount && types[cell] != 'f' && types[cell] != 'd';
         }
 
         int pinsOf(int cell) {
@@ -827,22 +828,22 @@ public final class CellrowWorks {
         }
 
         int drivenBy(int cell) {
-            return hasCell(cell) ? driven[cell] : NONE;
+            return cell >= 0 && cell < cellCount ? driven[cell] : NONE;
         }
 
         /** The net at an input; -1 if there is none. */
         int netAt(int cell, int input) {
-            return hasCell(cell) && input >= 0 && input < MOST_PINS ? pins[cell][input] : NONE;
+            return cell >= 0 && cell < cellCount && input >= 0 && input < MOST_PINS ? pins[cell][input] : NONE;
         }
 
         /** The cell that drives a net; -1 if an input of the chip does. */
         int driverOf(int net) {
-            return hasNet(net) ? drivers[net] : NONE;
+            return net >= 0 && net < netCount ? drivers[net] : NONE;
         }
 
         /** The row of the input of the chip that drives a net; -1 if a cell does. */
         int inputRowOf(int net) {
-            int source = hasNet(net) ? sources[net] : NONE;
+            int source = net >= 0 && net < netCount ? sources[net] : NONE;
             return source >= 0 && source < inputCount ? inputRows[source] : NONE;
         }
 
@@ -861,9 +862,10 @@ public final class CellrowWorks {
             int cell = cellCount;
             cellCount++;
             kinds[cell] = kind;
+            types[cell] = library.typeOf(kind);
             pins[cell][0] = NONE;
             pins[cell][1] = NONE;
-            driven[cell] = typeOf(cell) == 'd' ? NONE : appendNet(cell, NONE);
+            driven[cell] = types[cell] == 'd' ? NONE : appendNet(cell, NONE);
             return cell;
         }
 
@@ -909,15 +911,6 @@ public final class CellrowWorks {
             if (hasCell(cell)) {
                 kinds[cell] = kind;
             }
-        }
-
-        int exchangeDomain(int cell, int domain) {
-            if (!hasCell(cell)) {
-                return NONE;
-            }
-            int before = domains[cell];
-            domains[cell] = domain;
-            return before;
         }
 
         int leakOfAll() {
@@ -1093,28 +1086,17 @@ public final class CellrowWorks {
             }
             return own;
         }
-
-        /** Pairs of a cell and an input of another one, no shifter, in unlike domains. */
-        int crossings() {
-            int pairs = 0;
-            for (int cell = 0; cell < cellCount; cell++) {
-                for (int input = 0; input < MOST_PINS; input++) {
-                    int driver = driverOf(pins[cell][input]);
-                    if (hasCell(driver) && domains[driver] != domains[cell] && typeOf(cell) != 'l') {
-                        pairs++;
-                    }
-                }
-            }
-            return pairs;
-        }
     }
 
-    /** Where cells stand and should be, which sites are blocked, and how far the pins of nets are apart. */
+    /** Where cells stand and should be, which sites are blocked, how far pins are apart, and how cells are fed. */
     private static final class Floor {
         private final Netlist list;
         private final int[] places = new int[MOST_CELLS];
         private final boolean[] isTurned = new boolean[MOST_CELLS];
         private final int[] wishes = new int[MOST_CELLS];
+        private final int[] inputPlaces = new int[MOST_CELLS];
+        private final int[] outputPlaces = new int[MOST_CELLS];
+        private final int[] domains = new int[MOST_CELLS];
         private final boolean[] isBlocked = new boolean[PLACES];
         private final int[] left = new int[MOST_NETS];
         private final int[] right = new int[MOST_NETS];
@@ -1125,24 +1107,30 @@ public final class CellrowWorks {
             this.list = list;
             for (int cell = 0; cell < MOST_CELLS; cell++) {
                 places[cell] = NONE;
+                inputPlaces[cell] = NONE;
+                outputPlaces[cell] = NONE;
                 wishes[cell] = NONE;
             }
         }
 
         int at(int cell) {
-            return list.hasCell(cell) ? places[cell] : NONE;
+            return cell >= 0 && cell < MOST_CELLS ? places[cell] : NONE;
         }
 
         int wishOf(int cell) {
-            return list.hasCell(cell) ? wishes[cell] : NONE;
+            return cell >= 0 && cell < MOST_CELLS ? wishes[cell] : NONE;
         }
 
         int put(int cell, int place, boolean isMirrored) {
-            int before = at(cell);
-            if (list.hasCell(cell)) {
-                places[cell] = place;
-                isTurned[cell] = isMirrored;
+            if (!list.hasCell(cell)) {
+                return NONE;
             }
+            int before = places[cell];
+            int last = place + list.widthOf(cell) - 1;
+            places[cell] = place;
+            isTurned[cell] = isMirrored;
+            inputPlaces[cell] = isMirrored ? last : place;
+            outputPlaces[cell] = isMirrored ? place : last;
             return before;
         }
 
@@ -1251,22 +1239,10 @@ public final class CellrowWorks {
             return taken;
         }
 
-        /** The place of the inputs of a cell. */
-        int inputPlace(int cell) {
-            int place = at(cell);
-            return place != NONE && isTurned[cell] ? place + list.widthOf(cell) - 1 : place;
-        }
-
-        /** The place of the output of a cell. */
-        int outputPlace(int cell) {
-            int place = at(cell);
-            return place != NONE && !isTurned[cell] ? place + list.widthOf(cell) - 1 : place;
-        }
-
         /** The place of the pin that drives a net. */
         int driverPlace(int net) {
             int driver = list.driverOf(net);
-            return driver == NONE ? SITES * list.inputRowOf(net) : outputPlace(driver);
+            return driver >= 0 && driver < MOST_CELLS ? outputPlaces[driver] : SITES * list.inputRowOf(net);
         }
 
         static int portPlace(int row) {
@@ -1281,7 +1257,7 @@ public final class CellrowWorks {
             mark(driverPlace(net), isPin);
             for (int cell = 0; cell < list.cellCount; cell++) {
                 if (list.netAt(cell, 0) == net || list.netAt(cell, 1) == net) {
-                    mark(inputPlace(cell), isPin);
+                    mark(inputPlaces[cell], isPin);
                 }
             }
             for (int output = 0; output < list.outputCount; output++) {
@@ -1307,9 +1283,8 @@ public final class CellrowWorks {
                 reach(net, driverPlace(net));
             }
             for (int cell = 0; cell < list.cellCount; cell++) {
-                int place = inputPlace(cell);
-                reach(list.netAt(cell, 0), place);
-                reach(list.netAt(cell, 1), place);
+                reach(list.netAt(cell, 0), inputPlaces[cell]);
+                reach(list.netAt(cell, 1), inputPlaces[cell]);
             }
             for (int output = 0; output < list.outputCount; output++) {
                 reach(list.outputNetOf(output), portPlace(list.outputRowOf(output)));
@@ -1370,11 +1345,13 @@ public final class CellrowWorks {
         }
 
         private void swap(int cell, int other) {
-            if (list.hasCell(cell) && list.hasCell(other)) {
-                int place = places[cell];
-                places[cell] = places[other];
-                places[other] = place;
-            }
+            int place = at(cell);
+            put(cell, at(other), isTurnedAt(cell));
+            put(other, place, isTurnedAt(other));
+        }
+
+        private boolean isTurnedAt(int cell) {
+            return cell >= 0 && cell < MOST_CELLS && isTurned[cell];
         }
 
         /** How many steps two places are apart. */
@@ -1394,6 +1371,29 @@ public final class CellrowWorks {
                 }
             }
             return sum / (SITES + 1);
+        }
+
+        int exchangeDomain(int cell, int domain) {
+            if (!list.hasCell(cell)) {
+                return NONE;
+            }
+            int before = domains[cell];
+            domains[cell] = domain;
+            return before;
+        }
+
+        /** Pairs of a cell and an input of another one, no shifter, in unlike domains. */
+        int crossings() {
+            int pairs = 0;
+            for (int cell = 0; cell < list.cellCount; cell++) {
+                for (int input = 0; input < MOST_PINS; input++) {
+                    int driver = list.driverOf(list.netAt(cell, input));
+                    if (list.hasCell(driver) && domains[driver] != domains[cell] && list.typeOf(cell) != 'l') {
+                        pairs++;
+                    }
+                }
+            }
+            return pairs;
         }
     }
 
@@ -1505,6 +1505,7 @@ public final class CellrowWorks {
         private final int[] skews = new int[MOST_CELLS];
         private int points;
         private int lined;
+        private int delayOfAll;
         private boolean isGrown;
 
         Clock(Netlist list, Floor floor) {
@@ -1514,6 +1515,7 @@ public final class CellrowWorks {
 
         void fell() {
             isGrown = false;
+            delayOfAll = 0;
         }
 
         int exchangeSkew(int cell, int skew) {
@@ -1541,6 +1543,7 @@ public final class CellrowWorks {
                 length += joinNearest();
             }
             isGrown = true;
+            delayOfAll = points > 0 ? delays[points - 1] : 0;
             return length;
         }
 
@@ -1618,12 +1621,8 @@ public final class CellrowWorks {
             lined--;
         }
 
-        private int delayOfAll() {
-            return isGrown && points > 0 ? delays[points - 1] : 0;
-        }
-
         int arrivalAt(int cell) {
-            return list.hasCell(cell) ? delayOfAll() + skews[cell] : 0;
+            return cell >= 0 && cell < MOST_CELLS ? delayOfAll + skews[cell] : 0;
         }
 
         /** How long the way of the clock is that two flip-flops have in common. */
@@ -1642,7 +1641,7 @@ public final class CellrowWorks {
             climbing = leaves[other];
             for (int step = 0; step < points && isPoint(climbing); step++) {
                 if (isAbove[climbing]) {
-                    return delayOfAll() - delays[climbing];
+                    return delayOfAll - delays[climbing];
                 }
                 climbing = parents[climbing];
             }
@@ -1979,11 +1978,11 @@ public final class CellrowWorks {
         }
 
         boolean has(int shape) {
-            return shape >= 0 && shape < count && shape < MOST_SHAPES;
+            return shape >= 0 && shape < count;
         }
 
         int netOn(int shape) {
-            return has(shape) ? nets[shape] : NONE;
+            return shape >= 0 && shape < count ? nets[shape] : NONE;
         }
 
         void wipe() {
@@ -2127,7 +2126,8 @@ public final class CellrowWorks {
 
         /** Whether two shapes are on one row or site. */
         boolean isOnLineOf(int shape, int other) {
-            return has(shape) && has(other) && layers[shape] == layers[other] && lines[shape] == lines[other];
+            return shape >= 0 && shape < count && other >= 0 && other < count
+                    && layers[shape] == layers[other] && lines[shape] == lines[other];
         }
 
         boolean isOnTrackOf(int shape, int other) {
@@ -2136,7 +2136,8 @@ public final class CellrowWorks {
 
         /** Whether two shapes on one track have a place in common. */
         boolean isOverlapping(int shape, int other) {
-            return isOnTrackOf(shape, other) && froms[shape] <= tos[other] && froms[other] <= tos[shape];
+            return isOnLineOf(shape, other) && tracks[shape] == tracks[other]
+                    && froms[shape] <= tos[other] && froms[other] <= tos[shape];
         }
 
         /** Whether one shape of a row and one of a site have a place in common. */
@@ -2321,7 +2322,8 @@ public final class CellrowWorks {
 
         /** Goes from the first pin of a net to all that is joined with it, and tells whether a pin is left. */
         private boolean isOpen(int net) {
-            start(net);
+            floor.markPins(net, isPin);
+            start();
             for (int index = 0; index < queued; index++) {
                 int reached = queue[index];
                 if (reached >= MOST_SHAPES) {
@@ -2338,9 +2340,8 @@ public final class CellrowWorks {
             return false;
         }
 
-        private void start(int net) {
+        private void start() {
             queued = 0;
-            floor.markPins(net, isPin);
             for (int shape = 0; shape < MOST_SHAPES; shape++) {
                 isShapeReached[shape] = false;
             }
@@ -2493,13 +2494,13 @@ public final class CellrowWorks {
         /** Finds loads, deltas and the delays in a corner. */
         private void prepare(int corner) {
             list.arrange();
+            floor.measure();
             weigh();
             findDeltas();
             slow(corner);
         }
 
         private void weigh() {
-            floor.measure();
             for (int net = 0; net < list.netCount; net++) {
                 loads[net] = (router.isDone ? router.wireLengthOf(net) : floor.spanOf(net)) / 2;
             }
@@ -2567,6 +2568,7 @@ public final class CellrowWorks {
             return time * (100 + derate) / 100;
         }
 
+        /** Whether the cell is a flip-flop at which paths of a start begin. */
         private boolean isStart(int cell, int launch) {
             return list.isFlop(cell) && !isFalse[cell] && (launch == BY_ALL || launch == cell);
         }
@@ -2789,14 +2791,8 @@ public final class CellrowWorks {
             }
         }
 
-        void lessen() {
-            for (int cell = 0; cell < list.cellCount; cell++) {
-                lessenOne(cell);
-            }
-        }
-
         /** Takes the first kind that leaks less and does no harm; else the cell keeps its own. */
-        private void lessenOne(int cell) {
+        void lessen(int cell) {
             int own = list.kindOf(cell);
             int before = timer.leastByNets(2);
             for (int leak = 0; leak < list.library.leakOf(own); leak++) {
