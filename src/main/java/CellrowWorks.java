@@ -1627,19 +1627,19 @@ public final class CellrowWorks {
 
         /** How long the way of the clock is that two flip-flops have in common. */
         int sharedWay(int cell, int other) {
-            if (!isGrown || !list.hasCell(cell) || !list.hasCell(other)) {
+            if (!isGrown || cell < 0 || cell >= MOST_CELLS || other < 0 || other >= MOST_CELLS) {
                 return 0;
             }
             for (int point = 0; point < points; point++) {
                 isAbove[point] = false;
             }
             int climbing = leaves[cell];
-            for (int step = 0; step < points && isPoint(climbing); step++) {
+            for (int step = 0; step < points && climbing >= 0 && climbing < points; step++) {
                 isAbove[climbing] = true;
                 climbing = parents[climbing];
             }
             climbing = leaves[other];
-            for (int step = 0; step < points && isPoint(climbing); step++) {
+            for (int step = 0; step < points && climbing >= 0 && climbing < points; step++) {
                 if (isAbove[climbing]) {
                     return delayOfAll - delays[climbing];
                 }
@@ -2625,13 +2625,12 @@ public final class CellrowWorks {
             return launch < 0 || cell < 0 ? 0 : clock.sharedWay(launch, cell) * derate / 100;
         }
 
-        private int cyclesOf(int cell) {
-            return list.hasCell(cell) ? cycles[cell] : 1;
-        }
-
         /** When late changes must come to a flip-flop, or to an output. */
         private int dueAt(int cell) {
-            return cell == AT_OUTPUT ? period : clock.arrivalAt(cell) + cyclesOf(cell) * period - 2;
+            if (cell < 0 || cell >= MOST_CELLS) {
+                return period;
+            }
+            return clock.arrivalAt(cell) + cycles[cell] * period - 2;
         }
 
         /** The time to spare at an end of paths of one start, from the latest times. */
