@@ -2046,7 +2046,7 @@ public final class CellrowWorks {
         }
 
         int besideOf(int net, int other) {
-            return list.hasNet(net) && list.hasNet(other) ? beside[net][other] : 0;
+            return net >= 0 && net < MOST_NETS && other >= 0 && other < MOST_NETS ? beside[net][other] : 0;
         }
 
         /** Lays the wires on tracks and returns how many could not be laid. */
@@ -2560,7 +2560,8 @@ public final class CellrowWorks {
 
         /** Whether the times of two nets meet; a net to which no path comes has none. */
         private boolean isMeeting(int net, int other) {
-            return list.hasNet(net) && list.hasNet(other) && lates[net] != NEVER && lates[other] != NEVER
+            return net >= 0 && net < MOST_NETS && other >= 0 && other < MOST_NETS
+                    && lates[net] != NEVER && lates[other] != NEVER
                     && earlies[net] <= lates[other] && earlies[other] <= lates[net];
         }
 
