@@ -5,7 +5,7 @@ public final class PowerTest {
 
     public static void main(String[] args) {
         Script.runAll("47 coupling", COUPLING, "48 delta", DELTA, "48 delta, times that do not meet", APART,
-                "48 delta, in turn", IN_TURN, "49 drop", DROP, "50 setDomain", DOMAIN, "51 scan, 52 scanAt", SCAN,
+                "48 delta, in turn", IN_TURN, "48 delta, flip-flops", FLOPS, "49 drop", DROP, "50 setDomain", DOMAIN, "51 scan, 52 scanAt", SCAN,
                 "53 lockups", LOCKUPS, "54 change", CHANGE, "54 change, refused", REFUSED, "54 change, its own input",
                 OWN, "55 isSpare", SPARE, "56 opens", OPENS, "56 opens, joined shapes", JOINED, "57 shorts", SHORTS,
                 "58 isAsDrawn", AS_DRAWN);
@@ -158,6 +158,29 @@ public final class PowerTest {
             late 7 1 = 20
             """;
 
+    private static final String FLOPS = """
+            addKind f 1 9 1 0 10 = 0
+            addCell 0 = 0
+            addCell 0 = 1
+            connect 1 0 0 = -1
+            addShape 0 2 0 0 10 0 = 0
+            addShape 0 2 1 0 11 1 = 1
+            delta 0 = 5
+            late 0 1 = 15
+            early 0 1 = 10
+            slack 1 1 false = 83
+            slack 1 1 true = 9
+            worst 1 = 83
+            worstAnew 1 = 83
+            # times that meet at one point alone do meet
+            setSkew 0 -5 = 0
+            delta 0 = 0
+            setSkew 0 -4 = -5
+            delta 0 = 0
+            setSkew 0 0 = -4
+            delta 0 = 5
+            """;
+
     private static final String DROP = """
             drop 0 = IndexOutOfBoundsException
             addKind f 2 3 1 0 0 = 0
@@ -242,6 +265,9 @@ public final class PowerTest {
             setSkew 2 4 = 3
             lockups = 2
             tree = 12
+            # of pairs that are as near the first one
+            common 0 1 = 3
+            common 1 2 = 0
             lockups = 2
             setSkew 0 9 = 0
             lockups = 1

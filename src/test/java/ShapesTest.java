@@ -281,6 +281,17 @@ public final class ShapesTest {
             removeShape 1 = 1
             breaches s = 0
             isSound = true
+            # what begins first comes last
+            addShape 0 5 0 20 22 0 = 2
+            addShape 0 5 0 10 15 1 = 3
+            addShape 0 5 0 2 10 2 = 4
+            breaches s = 1
+            breachesAnew = 1
+            addShape 1 5 0 2 3 1 = 5
+            addShape 1 4 0 2 3 2 = 6
+            addShape 0 5 1 2 3 1 = 7
+            addShape 0 4 1 2 3 2 = 8
+            breaches s = 1
             """;
 
     private static final String LENGTHS = """

@@ -9,7 +9,7 @@ public final class TimesTest {
                 "22 late, 23 early: several ways", WAYS, "24 slack: what is given back", GIVEN_BACK,
                 "24 slack, 25 slackOut, 26 worst, 27 worstAnew: wrong numbers", WRONG, "26 worst, 27 worstAnew", WORST,
                 "28 buffer", BUFFER, "28 buffer, of several the least", LEAST_SET, "28 buffer, refused", REFUSED,
-                "28 buffer, sinks", SINKS, "28 buffer, full", FULL, "29 save", SAVE, "29 save, harm", HARM);
+                "28 buffer, sinks", SINKS, "28 buffer, the last sink", LAST_SINK, "28 buffer, full", FULL, "29 save", SAVE, "29 save, harm", HARM);
     }
 
     /** An input, an inverter, a flip-flop, one more and an output, in a row; nothing has a place. */
@@ -281,6 +281,18 @@ public final class TimesTest {
             slack 1 1 false = 83
             worst 1 = 80
             worstAnew 1 = 80
+            # one that ends at the cell 0
+            connect 0 0 1 = 2
+            place 0 10 0 false = 2
+            tree = 7
+            common 0 1 = 2
+            setDerate 50 = 33
+            late 1 1 = 20
+            slack 0 1 false = 82
+            connect 0 0 2 = 1
+            place 0 2 0 false = 10
+            tree = 18
+            setDerate 33 = 50
             setSkew 1 7 = 0
             # the common way is without skews: 19 and 15 come, 106 are due
             slack 2 1 false = 73
@@ -368,6 +380,12 @@ public final class TimesTest {
             # it is behind the net
             connect 3 0 0 = 1
             isSound = true
+            # the greatest one of times below 0
+            connect 3 0 1 = 0
+            connect 1 0 1 = 2
+            connect 2 0 1 = 2
+            setPeriod 1 = 100
+            buffer 1 2 21 0 = -7
             """;
 
     private static final String LEAST_SET = """
@@ -445,6 +463,26 @@ public final class TimesTest {
             connect 0 0 0 = 4
             connect 1 0 0 = 0
             isSound = true
+            """;
+
+    /** A buffer is the last sink of the net into which it was put, behind outputs too, until it is connected anew. */
+    private static final String LAST_SINK = """
+            addKind i 1 1 1 0 0 = 0
+            addKind b 1 1 1 0 0 = 1
+            addCell 0 = 0
+            addCell 0 = 1
+            connect 1 0 0 = -1
+            addOutput 0 0 = 0
+            buffer 0 1 5 0 = 9999
+            connect 1 0 0 = 2
+            connect 1 0 2 = 0
+            # the output is the first sink, the cell 2 the last one
+            buffer 0 1 5 1 = 9999
+            connect 2 0 0 = 0
+            # and now the cell 2 the first one, ahead of the cell 3
+            buffer 0 1 5 2 = 9999
+            connect 2 0 0 = 4
+            connect 3 0 0 = 0
             """;
 
     private static final String FULL = """

@@ -81,6 +81,15 @@ public final class WiresTest {
             tree = 31
             latency 0 = 13
             common 1 2 = 8
+            # 0 is as near to 1 as to 2
+            place 0 4 0 false = 0
+            common 1 2 = 0
+            place 1 0 0 false = 20
+            place 2 8 0 false = 11
+            tree = 12
+            common 0 1 = 3
+            common 0 2 = 0
+            common 1 2 = 0
             """;
 
     private static final String LATENCY = """
