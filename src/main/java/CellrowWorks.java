@@ -927,7 +927,9 @@ public final class CellrowWorks {
             for (int cell = 0; cell < cellCount; cell++) {
                 isMarked[cell] = false;
             }
-            for (int sweep = 0; sweep < cellCount; sweep++) {
+            int before = NONE;
+            for (int sweep = 0; sweep < cellCount && ordered > before; sweep++) {
+                before = ordered;
                 for (int cell = 0; cell < cellCount; cell++) {
                     if (!isMarked[cell] && isGate(cell) && isReady(cell) && ordered < MOST_CELLS) {
                         isMarked[cell] = true;
@@ -1724,6 +1726,7 @@ public final class CellrowWorks {
         private final Netlist list;
         private final Floor floor;
         private final int[][] wires = new int[MOST_NETS][2 * PLACES];
+        private final int[] lengths = new int[MOST_NETS];
         private final int[] used = new int[2 * PLACES];
         private final int[] history = new int[2 * PLACES];
         private final boolean[] isInTree = new boolean[PLACES];
@@ -1766,7 +1769,10 @@ public final class CellrowWorks {
             for (int edge = 0; edge < 2 * PLACES; edge++) {
                 used[edge] = 0;
                 history[edge] = 0;
-                for (int net = 0; net < MOST_NETS; net++) {
+            }
+            for (int net = 0; net < MOST_NETS; net++) {
+                lengths[net] = 0;
+                for (int edge = 0; edge < 2 * PLACES; edge++) {
                     wires[net][edge] = 0;
                 }
             }
@@ -1814,6 +1820,7 @@ public final class CellrowWorks {
             for (int edge = 0; edge < 2 * PLACES; edge++) {
                 if (list.hasNet(net) && wires[net][edge] > 0) {
                     wires[net][edge] = 0;
+                    lengths[net]--;
                     used[edge]--;
                 }
             }
@@ -1829,11 +1836,7 @@ public final class CellrowWorks {
         }
 
         int wireLengthOf(int net) {
-            int length = 0;
-            for (int edge = 0; edge < 2 * PLACES; edge++) {
-                length += list.hasNet(net) ? wires[net][edge] : 0;
-            }
-            return length;
+            return net >= 0 && net < MOST_NETS ? lengths[net] : 0;
         }
 
         int wiresOn(int layer, int place) {
@@ -1927,6 +1930,7 @@ public final class CellrowWorks {
         private void layWire(int net, int edge) {
             if (edge >= 0 && edge < 2 * PLACES && list.hasNet(net) && wires[net][edge] == 0) {
                 wires[net][edge] = 1;
+                lengths[net]++;
                 used[edge]++;
             }
         }
@@ -1962,6 +1966,7 @@ public final class CellrowWorks {
         private final int[] nets = new int[MOST_SHAPES];
         private final int[] sorted = new int[MOST_SHAPES];
         private final int[] ends = new int[MOST_TRACKS];
+        private final int[] runs = new int[MOST_NETS];
         private final int[] sums = new int[MOST_NETS];
         private final int[][] beside = new int[MOST_NETS][MOST_NETS];
         private int count;
@@ -2031,7 +2036,7 @@ public final class CellrowWorks {
 
         /** Counts what a shape has beside it, or takes that off again. */
         private void couple(int shape, int sign) {
-            if (!has(shape) || !list.hasNet(nets[shape])) {
+            if (shape < 0 || shape >= count || !list.hasNet(nets[shape])) {
                 return;
             }
             for (int other = 0; other < count; other++) {
@@ -2069,11 +2074,21 @@ public final class CellrowWorks {
                 ends[track] = -gap;
             }
             for (int from = 0; from < Router.lastOf(layer); from++) {
-                for (int to = from + 1; to <= Router.lastOf(layer); to++) {
-                    for (int net = 0; net < list.netCount; net++) {
-                        if (router.endOfRun(net, layer, line, from) == to && !layRun(layer, line, from, to, net)) {
-                            left++;
-                        }
+                left += layFrom(layer, line, from);
+            }
+            return left;
+        }
+
+        /** Lays the wires that begin at a position, by where they end, then by nets; returns how many it could not. */
+        private int layFrom(int layer, int line, int from) {
+            for (int net = 0; net < list.netCount; net++) {
+                runs[net] = router.endOfRun(net, layer, line, from);
+            }
+            int left = 0;
+            for (int to = from + 1; to <= Router.lastOf(layer); to++) {
+                for (int net = 0; net < list.netCount; net++) {
+                    if (runs[net] == to && !layRun(layer, line, from, to, net)) {
+                        left++;
                     }
                 }
             }
@@ -2618,7 +2633,7 @@ public final class CellrowWorks {
         }
 
         private int timeIn(int[] times, int net) {
-            return list.hasNet(net) && net < times.length ? times[net] : NEVER;
+            return net >= 0 && net < times.length ? times[net] : NEVER;
         }
 
         /** What is given back for a path from a flip-flop to another one. */

@@ -553,7 +553,12 @@ public final class TimesTest {
             connect 0 0 0 = -1
             connect 1 0 1 = -1
             addOutput 2 0 = 0
-            setPeriod 60 = 100
+            # 0 is enough
+            setPeriod 48 = 100
+            save = 70
+            worst 2 = 0
+            setKind 0 0 = 2
+            setPeriod 60 = 48
             worst 2 = 36
             # 60 is too much for the first one, 30 leaves a worst time of 12, for the second one all is too much
             save = 70
