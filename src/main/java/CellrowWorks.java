@@ -1073,7 +1073,6 @@ public final class CellrowWorks {
 
         /** Gives all that a cell has at its inputs, and drives, to a spare one; returns how many sinks others have. */
         int handOver(int cell, int spare) {
-            int own = 0;
             int target = drivenBy(spare);
             for (int input = 0; input < MOST_PINS; input++) {
                 int net = attach(cell, input, NONE);
@@ -1084,9 +1083,8 @@ public final class CellrowWorks {
             for (int index = 0; index < found; index++) {
                 moveSink(sinkAt(index), target);
                 settleSink(sinkAt(index));
-                own++;
             }
-            return own;
+            return found;
         }
     }
 
