@@ -1,11 +1,15 @@
 import java.lang.reflect.Method;
+import java.util.ArrayList;
+import java.util.List;
 
 /**
  * Runs a text with a call in each line, "name arguments = answer", on a new chip; "new" makes another one, and "#"
- * begins a remark. An answer that ends with "Exception" means that the call throws it and changes nothing.
+ * begins a remark. A line without an answer is a call that must not be refused. An answer that ends with "Exception"
+ * means that the call throws it and changes nothing, also nothing of what is seen only by changing more.
  */
 final class Script {
     private final String title;
+    private final List<Object[]> made = new ArrayList<>();
     private CellrowWorks chip = new CellrowWorks();
     private int wrong;
 
@@ -17,16 +21,21 @@ final class Script {
     static void runAll(String... titlesAndTexts) {
         int wrong = 0;
         for (int i = 0; i + 1 < titlesAndTexts.length; i += 2) {
-            Script script = new Script(titlesAndTexts[i]);
-            for (String line : titlesAndTexts[i + 1].split("\n")) {
-                script.runLine(line.replaceAll("#.*", "").strip());
-            }
-            wrong += script.wrong;
+            wrong += run(titlesAndTexts[i], titlesAndTexts[i + 1]);
         }
         System.out.println(wrong == 0 ? titlesAndTexts.length / 2 + " texts answer as is due" : wrong + " wrong answers");
         if (wrong > 0) {
             System.exit(1);
         }
+    }
+
+    /** Runs a text and returns how many answers were not the ones that are due. */
+    static int run(String title, String text) {
+        Script script = new Script(title);
+        for (String line : text.split("\n")) {
+            script.runLine(line.replaceAll("#.*", "").strip());
+        }
+        return script.wrong;
     }
 
     private void runLine(String line) {
@@ -35,20 +44,32 @@ final class Script {
         }
         if (line.equals("new")) {
             chip = new CellrowWorks();
+            made.clear();
             return;
         }
         String[] sides = line.split(" = ");
         String[] words = sides[0].split(" +");
         Object[] args = arguments(words);
-        boolean isRefused = sides[1].endsWith("Exception");
-        String before = isRefused ? Calls.look(chip) : "";
+        String due = sides.length > 1 ? sides[1] : "any";
+        boolean isRefused = due.endsWith("Exception");
+        String look = isRefused ? Calls.look(chip) : "";
+        String probe = isRefused ? Probe.of(again()) : "";
         String answer = Calls.answer(chip, words[0], args);
-        String due = isRefused ? "throws " + sides[1] : sides[1];
-        if (!answer.equals(due)) {
+        made.add(new Object[] {words[0], args});
+        if (due.equals("any") ? answer.startsWith("throws") : !answer.equals(isRefused ? "throws " + due : due)) {
             report(line, answer);
-        } else if (isRefused && !before.equals(Calls.look(chip))) {
+        } else if (isRefused && (!look.equals(Calls.look(chip)) || !probe.equals(Probe.of(again())))) {
             report(line, "that, and changed something");
         }
+    }
+
+    /** Another chip with which the same calls were made. */
+    private CellrowWorks again() {
+        CellrowWorks other = new CellrowWorks();
+        for (Object[] call : made) {
+            Calls.answer(other, (String) call[0], (Object[]) call[1]);
+        }
+        return other;
     }
 
     private void report(String line, String answer) {

@@ -479,10 +479,37 @@ public final class TimesTest {
             # the output is the first sink, the cell 2 the last one
             buffer 0 1 5 1 = 9999
             connect 2 0 0 = 0
-            # and now the cell 2 the first one, ahead of the cell 3
+            # and now the cell 2 the first one, ahead of another output and of the cell 3
+            addOutput 0 0 = 1
             buffer 0 1 5 2 = 9999
             connect 2 0 0 = 4
             connect 3 0 0 = 0
+            new
+            addKind i 1 1 1 0 0 = 0
+            addKind b 1 1 1 0 0 = 1
+            addCell 0 = 0
+            addOutput 0 0 = 0
+            buffer 0 1 5 0 = 9999
+            # the cell 1 goes behind the cell 2, where it stands as any other one, ahead of an output
+            buffer 0 1 5 1 = 9999
+            addOutput 2 0 = 1
+            buffer 2 1 5 2 = 9999
+            connect 1 0 0 = 3
+            connect 2 0 0 = 0
+            new
+            addKind i 1 1 1 0 0 = 0
+            addKind b 1 1 1 0 0 = 1
+            addCell 0 = 0
+            addCell 0 = 1
+            addOutput 0 0 = 0
+            place 1 0 5 false = -1
+            # as the spare cell 1 drives it too
+            buffer 0 1 5 0 = 9999
+            addOutput 0 0 = 1
+            change 0 1 = 2
+            buffer 1 1 5 1 = 9999
+            connect 2 0 0 = 3
+            connect 3 0 0 = 1
             """;
 
     private static final String FULL = """
