@@ -13,6 +13,7 @@ public final class FullTest {
                 "5 6 outputs", "addInput 0\n" + times(6, "addOutput 0 5 = %d\n") + OUTPUTS,
                 "61 24 nets", NETS, "10 a row that is blocked", BLOCKED_ROW, "10 all sites blocked", BLOCKED,
                 "11 a row that is taken", TAKEN_ROW, "14 a row that is taken, to the last site", LEGAL_ROW,
+                "14 all cells at one site", ALL_AT_ONE,
                 "22 the most load and delay", mostLoad(), "22 the longest path", longestPath(),
                 "27 the most paths", mostPaths(), "54 the last input of the last cell", lastInput(), "28 from 17 cells on", lastBuffer(), "28 six sinks", SIX_SINKS,
                 "30 18 flip-flops in the tree", mostFlops() + TREE, "51 18 flip-flops in the chain", mostFlops() + SCAN,
@@ -219,6 +220,24 @@ public final class FullTest {
             placeOf 4 = 65
             block 20 2 1 0 = 4
             legalize 2 = UnsupportedOperationException
+            """;
+
+    private static final String ALL_AT_ONE = "addKind b 1 1 1 1 1\n" + times(18, "addCell 0 = %d\n")
+            + times(18, "wish %d 23 5 = -1\n") + """
+            legalize 5 = 153
+            placeOf 0 = 126
+            placeOf 1 = 127
+            placeOf 17 = 143
+            """ + times(18, "wish %d 0 0 = 143\n") + """
+            legalize 5 = 0
+            legalize 0 = 153
+            placeOf 0 = 0
+            placeOf 17 = 17
+            block 17 0 7 0 = 7
+            legalize 0 = UnsupportedOperationException
+            block 0 1 1 0 = 1
+            placeOf 17 = 17
+            fill = 0.125
             """;
 
     private static final String SIX_SINKS = """
