@@ -1288,6 +1288,17 @@ public final class EdgesTest {
             place 1 0 1 false = 23
             drop 0 = 1
             drop 1 = 8
+            # the site of a wide cell is its first one, mirrored or not
+            addKind b 4 9 1 1 1 = 2
+            addCell 2 = 2
+            place 2 4 3 false = -1
+            place 0 20 3 false = 1
+            # 9 by 5 by 4 and 1 by 21 by 4; 9 by 5 by 20 and 1 by 5 by 4
+            drop 0 = 10
+            drop 2 = 36
+            place 2 4 3 true = 76
+            drop 0 = 10
+            drop 2 = 36
             """;
 
     private static final String CHAIN = """
