@@ -1171,6 +1171,9 @@ public final class EdgesTest {
             breaches t = 0
             addShape 0 1 0 0 1 0 = 1
             breaches t = 1
+            # a shape that is taken away counts no more
+            removeShape 1 = 0
+            breaches t = 0
             """;
 
     private static final String SHIFTER = """

@@ -106,6 +106,12 @@ public final class FullTest {
             addShape 0 5 1 0 1 22 = 1
             addShape 0 5 1 0 1 24 = IndexOutOfBoundsException
             coupling 22 23 = 1
+            delta 23 = 0
+            # an input of 1 and an output of 2
+            early 23 1 = 7
+            slack 17 1 false = 91
+            slack 17 1 true = 6
+            worst 1 = 91
             value 23 0 131072 = 1
             meanLength = 0.0
             """;

@@ -490,6 +490,19 @@ public final class TimesTest {
             addCell 0 = 0
             addOutput 0 0 = 0
             buffer 0 1 5 0 = 9999
+            # of those that stay none comes ahead
+            addOutput 0 0 = 1
+            buffer 0 1 5 1 = 9999
+            addOutput 0 0 = 2
+            buffer 0 1 5 2 = 9999
+            connect 1 0 0 = 0
+            connect 2 0 0 = 0
+            new
+            addKind i 1 1 1 0 0 = 0
+            addKind b 1 1 1 0 0 = 1
+            addCell 0 = 0
+            addOutput 0 0 = 0
+            buffer 0 1 5 0 = 9999
             # the cell 1 goes behind the cell 2, where it stands as any other one, ahead of an output
             buffer 0 1 5 1 = 9999
             addOutput 2 0 = 1
