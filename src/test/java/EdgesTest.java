@@ -21,6 +21,7 @@ public final class EdgesTest {
         Script.runAll("the lowest of several pins", LOWEST_PIN, "the lowest of several places of the tree", LOWEST_PLACE,
                 "or of a site and then a row if that costs less", COSTS_LESS, "8 if it is full already", FULL_ALREADY,
                 "1 and its history, and 8 along a row", HISTORY, "1 and its history, and 8 along a site", HISTORY_DOWN,
+                "1 and its history, and 8 at the last edges", HISTORY_LAST,
                 "each net that has an edge that is over full then", OVER_FULL_THEN,
                 "how many go along a row, how many go from row to row", ACROSS_AND_DOWN,
                 "0 if it is in this tree", IN_TREE, "it ends when none is over full", ENDS,
@@ -709,8 +710,20 @@ public final class EdgesTest {
             route = 2
             usage 0 0 true = 3
             usage 1 0 false = 1
+            # each round gives 1: it does not change its way ahead of the ninth one, to come back later
+            reroute 1 = 2
+            reroute 1 = 2
+            reroute 1 = 2
+            reroute 1 = 2
+            usage 1 0 false = 1
+            reroute 1 = 2
+            usage 1 0 false = 1
+            reroute 1 = 2
+            usage 1 0 false = 1
+            reroute 1 = 2
+            usage 1 0 false = 1
             # with a history of 8 both are 18: the row first; with 9 no more
-            reroute 8 = 2
+            reroute 1 = 2
             usage 1 0 false = 1
             reroute 1 = 3
             usage 0 0 true = 2
@@ -768,6 +781,36 @@ public final class EdgesTest {
             usage 0 1 true = 1
             reroute 7 = 2
             usage 0 1 true = 1
+            """;
+
+    private static final String HISTORY_LAST = """
+            addKind b 1 1 1 0 0 = 0
+            addCell 0 = 0
+            addCell 0 = 1
+            addCell 0 = 2
+            addOutput 0 5 = 0
+            addOutput 1 5 = 1
+            addOutput 2 5 = 2
+            # all to the last place: 0 by either way, 1 down at the site 23, 2 along the row 5
+            place 0 22 4 false = -1
+            place 1 23 4 false = -1
+            place 2 22 5 false = -1
+            setCapacity 1 1 = 43
+            route = 1
+            usage 23 4 false = 2
+            # 1 and 10 against 1 and 9
+            reroute 1 = 1
+            usage 23 4 false = 1
+            usage 22 4 false = 1
+            usage 22 5 true = 2
+            # 1 and 10 by either way: the row first
+            reroute 1 = 1
+            usage 23 4 false = 2
+            usage 22 5 true = 1
+            # 1 and 11 against 1 and 10
+            reroute 1 = 1
+            usage 23 4 false = 1
+            usage 22 5 true = 2
             """;
 
     private static final String OVER_FULL_THEN = """
@@ -1161,6 +1204,10 @@ public final class EdgesTest {
             addCell 0 = 0
             connect 0 0 0 = -1
             addShape 0 0 0 5 15 0 = 0
+            # 10 is far less than told at first, less than 11, not greater than 10
+            breaches t = 0
+            setRules 1 0 100 11 = 1
+            breaches t = 0
             setRules 1 0 100 10 = 1
             breaches t = 0
             setRules 1 0 100 9 = 1
